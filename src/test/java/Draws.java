@@ -130,6 +130,18 @@ final class Draws {
         }
     }
 
+    /** TOKENS and bytes in any order. */
+    String noise() {
+        StringBuilder b = new StringBuilder(of("", "pulls ", "learns ", "day 1;", "pulls if "));
+        int n = random.nextInt(90);
+        for (int i = 0; i < n; i++) {
+            if (random.nextInt(30) == 0) b.append((char) random.nextInt(256));
+            else b.append(of(WORDS)).append(of("", " "));
+        }
+        if (b.length() > 300) b.setLength(300);
+        return b.toString();
+    }
+
     /** Openers in rows, around the depth at which they are refused. */
     String deep() {
         StringBuilder b = new StringBuilder(random.nextBoolean() ? "pulls " : "learns ");

@@ -292,6 +292,14 @@ public final class StateTest {
         c.due("whose() of none", x.whose(), 0);
         x.back();
         c.due("whose() once more", x.whose(), 1);
+        x.said(-1000, 0);
+        x.said(3, 3);
+        x.request(-1);
+        x.request(3);
+        c.due("whose() of others", x.whose(), 0);
+        x.back();
+        c.due("whose() as SAID ahead of the image", x.whose(), 1);
+        c.due("order(0) as asked ahead of the image", x.order(0), 7);
         c.due("order(1) once more", x.order(1), -2);
     }
 

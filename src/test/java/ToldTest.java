@@ -13,6 +13,7 @@ public final class ToldTest {
         faultsByNumber();
         faultsTogether();
         by();
+        fullTapes();
         sums();
         choices();
         c.end();
@@ -236,6 +237,41 @@ public final class ToldTest {
         c.fault("off;", 1, 0);
     }
 
+    private static String times(String what, int n) {
+        StringBuilder b = new StringBuilder();
+        for (int i = 0; i < n; i++) b.append(what);
+        return b.toString();
+    }
+
+    private static void fullTapes() {
+        c.fault(times(";", 300), 1, 0);
+        c.fault(times(" ", 300), 0, -1);
+        c.fault(times("9", 300), 1, 0);
+        c.fault("day " + times("9", 296), 2, 4);
+        c.fault("day " + times("0", 294) + "7;", 0, -1);
+        c.fault(times("a", 300), 1, 0);
+        c.fault("pulls " + times("-", 294), 3, 14);
+        c.fault("pulls 1" + times("+1", 146) + ";", 0, -1);
+        c.fault("pulls 1" + times("+1", 146) + "+", 1, 300);
+        c.fault("pulls 1;learns 1" + times("*1", 141) + " ;", 0, -1);
+        c.fault("pulls 1;learns 1" + times("*1", 141) + " <", 1, 299);
+        c.pulls("1" + times("+1", 146), 9);
+        c.pulls("140" + times("-1", 145), -5);
+        // What was read of TEXTS with a FAULT is no part of the next one.
+        HeadServo x = new HeadServo();
+        for (int i = 0; i < 5; i++) {
+            c.due("one with a FAULT", Check.read(x, "lose 1;pulls 1" + times("+1", 140) + ";learns 1+"), -1);
+        }
+        c.due("one without", Check.read(x, "learns 2;lose 2;"), 0);
+        x.by(0);
+        c.due("pulls() without", x.pulls(), 0);
+        c.due("played(0)", x.played(0), -1);
+        c.due("lost()", x.lost(), 4);
+        c.due("another", Check.read(x, "pulls 140" + times("-1", 138) + ";"), 1);
+        x.by(1);
+        c.due("pulls() by it", x.pulls(), 2);
+    }
+
     private static void by() {
         HeadServo x = new HeadServo();
         c.due("by(NONE)", x.by(-1), true);
@@ -329,5 +365,13 @@ public final class ToldTest {
         c.pulls("1+if 2<1 then 3+1 else 2 end*2", 5);
         c.pulls("if if 1<2 then 5 else 6 end=5 then if 2<1 then 7 else 8 end else 9 end", 8);
         c.pulls("if 1+1<2+1 then 3 else 4 end", 3);
+        for (String so : new String[] {"1<2", "1<=2", "2>1", "2>=1", "2=2", "1#2"}) {
+            c.pulls("if " + so + " and 1<2 then 3 else 4 end", 3);
+            c.pulls("if 1<2 and " + so + " and 2=2 then 3 else 4 end", 3);
+            c.pulls("if 2<1 or " + so + " then 3 else 4 end", 3);
+            c.pulls("if not " + so + " then 3 else 4 end", 4);
+            c.pulls("if not not " + so + " then 3 else 4 end", 3);
+            c.pulls("if not " + so + " or 2<1 then 3 else 4 end", 4);
+        }
     }
 }
