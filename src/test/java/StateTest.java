@@ -13,6 +13,7 @@ public final class StateTest {
         ledger();
         image();
         imageOfAll();
+        imageOfSaid();
         about();
         c.end();
     }
@@ -301,6 +302,18 @@ public final class StateTest {
         c.due("whose() as SAID ahead of the image", x.whose(), 1);
         c.due("order(0) as asked ahead of the image", x.order(0), 7);
         c.due("order(1) once more", x.order(1), -2);
+    }
+
+    private static void imageOfSaid() {
+        HeadServo x = new HeadServo();
+        Check.read(x, "pulls error;");
+        x.said(4, 4);
+        x.image();
+        x.said(-1000, 0);
+        x.said(5, 4);
+        c.due("whose() of another ERROR", x.whose(), 0);
+        x.back();
+        c.due("whose() of the image's", x.whose(), 1);
     }
 
     private static void about() {

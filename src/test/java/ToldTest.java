@@ -257,6 +257,13 @@ public final class ToldTest {
         c.fault("pulls 1;learns 1" + times("*1", 141) + " <", 1, 299);
         c.pulls("1" + times("+1", 146), 9);
         c.pulls("140" + times("-1", 145), -5);
+        c.fault("pulls if 1<=", 1, 12);
+        c.fault("pulls if 1>=", 1, 12);
+        c.fault("pulls if 1" + times(" ", 288) + "<=", 1, 300);
+        cut("write;", 4, 1, 0);
+        cut("day 61;", 5, 1, 5);
+        cut("pulls if 1<=2", 11, 1, 11);
+        cut("lose 1;lose 1", 7, 0, -1);
         // What was read of TEXTS with a FAULT is no part of the next one.
         HeadServo x = new HeadServo();
         for (int i = 0; i < 5; i++) {
@@ -270,6 +277,16 @@ public final class ToldTest {
         c.due("another", Check.read(x, "pulls 140" + times("-1", 138) + ";"), 1);
         x.by(1);
         c.due("pulls() by it", x.pulls(), 2);
+    }
+
+    /** A tape that is cut short: the bytes behind are none of it. */
+    private static void cut(String text, int length, int number, int place) {
+        HeadServo x = new HeadServo();
+        Check.feed(x, text);
+        x.end(length);
+        x.text();
+        c.due("fault(0) of [" + text + "] cut to " + length, x.fault(0), number);
+        c.due("fault(1) of [" + text + "] cut to " + length, x.fault(1), place);
     }
 
     private static void by() {
