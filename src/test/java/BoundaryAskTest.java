@@ -10,11 +10,13 @@ public final class BoundaryAskTest {
         tillBeyond();
         tillByTwoHundred();
         gray();
+        codes();
         track();
         burst();
         reads();
         fit();
         fits();
+        missing();
         unlike();
         rim();
         blind();
@@ -191,6 +193,56 @@ public final class BoundaryAskTest {
         b.row("gray(track)", new HeadServo(), (x, v) -> x.gray(v), 30, 17, 16, 48, 49);
         b.row("gray(track)", new HeadServo(), (x, v) -> x.gray(v), 62, 33, 32, -1);
         b.outside("gray", (x, v) -> x.gray(v), 0, 63, -1);
+    }
+
+    private static void codes() {
+        b.of(22, "CODE of a TRACK: its number and half of it (cut), bit by bit unlike.");
+        for (int t = 0; t < 64; t++) {
+            int code = 0;
+            for (int bit = 0; bit < 6; bit++) {
+                boolean own = t / (1 << bit) % 2 == 1;
+                boolean half = t / 2 / (1 << bit) % 2 == 1;
+                if (own != half) code += 1 << bit;
+            }
+            b.due("gray(" + t + ")", new HeadServo().gray(t), code);
+        }
+        b.of(28, "UNLIKE: in how many bits CODES of two TRACKS are.");
+        for (int bits = 0; bits < 6; bits++) {
+            // TRACKS whose CODES are 0 and 1, 3, 7, 15, 31, 63.
+            HeadServo x = new HeadServo();
+            b.due("unlike in " + (bits + 1), x.unlike(0, x.track((2 << bits) - 1)), bits + 1);
+            b.due("unlike in one, bit " + bits, x.unlike(x.track(63), x.track(63 - (1 << bits))), 1);
+        }
+    }
+
+    private static void missing() {
+        b.of(27, "WHERE IT CAN BE, a CODE and four BURSTS (NONE: missing) being read: PLACES where that CODE is read (it or the other one) that have just these BURSTS (but missing ones): how many; the lowest.");
+        for (int place : new int[] {0, 3, 12, 15, 16, 19, 20, 500, 508, 511, 1003, 1004, 1011, 1012, 1020, 1023}) {
+            for (int mask = 0; mask < 16; mask++) {
+                HeadServo x = new HeadServo();
+                int[] v = new int[4];
+                for (int i = 0; i < 4; i++) v[i] = (mask >> i & 1) == 1 ? -1 : x.burst(place, i);
+                int near = 0;
+                int lowest = -1;
+                int code = x.reads(place, false);
+                int track = place / 16;
+                int all = 0;
+                for (int p = 0; p < 1024; p++) {
+                    boolean so = true;
+                    for (int i = 0; i < 4; i++) so = so && (v[i] == -1 || v[i] == Math.abs(16 - (p + new int[] {0, 16, 8, 24}[i]) % 32));
+                    boolean read = p >= 16 * track - 4 && p <= 16 * track + 19;
+                    if (so) all++;
+                    if (so && read) {
+                        near++;
+                        lowest = lowest < 0 ? p : lowest;
+                    }
+                }
+                String told = " of PLACE " + place + ", missing " + mask;
+                b.due("fits" + told, x.fits(code, v[0], v[1], v[2], v[3]), near);
+                b.due("fit" + told, x.fit(code, v[0], v[1], v[2], v[3]), lowest);
+                b.due("blind" + told, x.blind(v[0], v[1], v[2], v[3]), all);
+            }
+        }
     }
 
     private static void track() {

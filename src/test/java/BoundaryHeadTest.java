@@ -580,6 +580,7 @@ public final class BoundaryHeadTest {
         b.due("25 lines as ahead", x.book(-1, 0), 25);
         b.due("the eldest line as ahead", x.book(0, 2), eldest[0]);
         b.due("the latest line as ahead", x.book(24, 2), eldest[1]);
+        allOfTheHead();
         b.of(15, "The latest STEP is taken back: how many can be yet.");
         HeadServo y = new HeadServo();
         y.seek(3);
@@ -597,6 +598,61 @@ public final class BoundaryHeadTest {
         b.due("LOST is as told", y.of(2, 2), 1);
         b.due("the FAULT stays", y.fault(0), 1);
         b.row("about(what)", y, (z, v) -> z.about(v), 0, 1, 0, 0, 1, 1, 20);
+    }
+
+    /** All that a STEP changes of THE HEAD is something else ahead of it. */
+    private static HeadServo full() {
+        HeadServo x = Heads.still("pulls if clock=0 then 0-9 else if clock=9 then 3 else 0 end end;");
+        x.day(4);
+        x.write();
+        x.write();
+        x.lose(7);
+        x.wobble(7, 4);
+        x.day(4);
+        return x;
+    }
+
+    private static void isAll(String when, HeadServo x, long... want) {
+        b.row("is(what) " + when, x, (y, v) -> y.is(v), 0, want);
+    }
+
+    private static void allOfTheHead() {
+        // CLOCK, X, PLACE, SPEED, TARGET, ERROR, SETTLED, WRITTEN, STRUCK: READ 5 at PLACE 0.
+        long[] ahead = {8, 3955, 0, 0, 0, -3, 8, 2, 1};
+        HeadServo x = full();
+        isAll("ahead", x, ahead);
+        x.write();
+        isAll("behind a write", x, 8, 3955, 0, 0, 0, -3, 8, 3, 1);
+        x.undo();
+        isAll("behind its undo()", x, ahead);
+        x.seek(9);
+        isAll("behind a seek", x, 8, 3955, 0, 0, 9, -3, 0, 2, 1);
+        x.undo();
+        isAll("behind its undo() of it", x, ahead);
+        x.shake(2);
+        isAll("behind a shake", x, 8, 3955, 2, 0, 0, -3, 0, 2, 1);
+        x.undo();
+        isAll("behind the undo() of it", x, ahead);
+        Heads.lose(x, 0, 1);
+        Heads.rule(x, "pulls if clock=8 then 0-1 else 3 end;learns 16;");
+        x.day(1);
+        // X 3955 draws 1: READ 0; it strikes.
+        isAll("behind a SAMPLE", x, 9, 2860, 0, 0, 0, -8, 0, 2, 2);
+        x.day(1);
+        isAll("behind another one", x, 10, 1449, 3, 3, 0, -8, 0, 2, 2);
+        b.due("LEARNT of 1", x.of(1, 1), -8);
+        x.image();
+        x.undo();
+        isAll("behind the undo() of that one", x, 9, 2860, 0, 0, 0, -8, 0, 2, 2);
+        b.due("LEARNT of 1 then", x.of(1, 1), 0);
+        b.due("LEARNT of 0 then", x.of(0, 1), -8);
+        x.undo();
+        isAll("behind the undo() of both", x, ahead);
+        b.due("LEARNT of 0 at last", x.of(0, 1), 0);
+        x.back();
+        isAll("behind back()", x, 10, 1449, 3, 3, 0, -8, 0, 2, 2);
+        x.undo();
+        isAll("behind back() and undo()", x, 9, 2860, 0, 0, 0, -8, 0, 2, 2);
     }
 
     private static void wobble() {

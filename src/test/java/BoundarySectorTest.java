@@ -10,6 +10,7 @@ public final class BoundarySectorTest {
         longest();
         said();
         whose();
+        none();
         lost();
         far();
         worst();
@@ -242,6 +243,18 @@ public final class BoundarySectorTest {
         b.due("whose() of two that are so", z.whose(), 1);
         z.said(0, 2);
         b.due("whose() if one of three isn't so", z.whose(), 0);
+    }
+
+    private static void none() {
+        b.of(26, "The constants: `NONE = -1`: None.");
+        b.due("NONE", HeadServo.NONE, -1);
+        b.of(52, "THE WORST SECTOR. NONE: none.");
+        b.due("worst() of none", allLost().worst(), HeadServo.NONE);
+        for (int s = 0; s < 8; s++) {
+            HeadServo x = allLost();
+            x.lose(s);
+            b.due("worst() of one", x.worst(), s);
+        }
     }
 
     private static void lost() {

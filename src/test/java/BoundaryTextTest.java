@@ -108,6 +108,17 @@ public final class BoundaryTextTest {
     }
 
     private static void end() {
+        b.of(7, "(of the end at the length)");
+        cut("write;", 4, 1, 0);
+        cut("write;", 5, 1, 5);
+        cut("day 61;", 5, 1, 5);
+        cut("day 61;", 6, 2, 4);
+        cut("lose 1;lose 1;", 7, 0, -1);
+        cut("lose 1;lose 1;", 8, 1, 7);
+        cut("pulls speedy;", 11, 1, 11);
+        cut("pulls if 1<=2", 11, 1, 11);
+        cut("   ;", 3, 0, -1);
+        cut("   ;", 4, 1, 3);
         b.of(5, "The tape has its first n bytes alone: n. NONE, and nothing is done, if it has not so many, or n is below 0.");
         HeadServo x = new HeadServo();
         b.due("end(0) of none", x.end(0), 0);
@@ -141,6 +152,15 @@ public final class BoundaryTextTest {
         b.due("lost() then", v.lost(), 40);
     }
 
+    private static void cut(String tape, int n, int number, int place) {
+        HeadServo x = new HeadServo();
+        Check.feed(x, tape);
+        x.end(n);
+        x.text();
+        b.due("fault(0) of the first " + n + " of [" + tape + "]", x.fault(0), number);
+        b.due("fault(1) of the first " + n + " of [" + tape + "]", x.fault(1), place);
+    }
+
     private static void text() {
         b.of(6, "The tape (empty then) is a TEXT: its number. NONE: it has a FAULT; or (the tape stays) there are 4.");
         HeadServo x = new HeadServo();
@@ -165,6 +185,22 @@ public final class BoundaryTextTest {
                 Check.feed(y, tape);
             }, y -> y.text(), -1);
         }
+        // What was read of a TEXT up to its FAULT is no part of the next one.
+        HeadServo z = new HeadServo();
+        for (int i = 0; i < 9; i++) Check.read(z, "lose 1;pulls 1" + times("+1", 140) + ";learns");
+        b.due("text() behind many with a FAULT", Check.read(z, "learns 2;lose 2;"), 0);
+        b.due("played(0)", z.played(0), -1);
+        b.due("lost() by its own CLAUSES", z.lost(), 4);
+        z.by(0);
+        z.day(1);
+        b.due("SPEED without its pulls", z.is(3), -1);
+        Check.read(z, "pulls 7;lose 4;lose 5;lose 6;learns 16;write");
+        b.due("text() behind one with more CLAUSES", Check.read(z, "lose 3;"), 1);
+        b.due("played(1)", z.played(1), -1);
+        b.due("lost() by its own CLAUSE", z.lost(), 12);
+        b.due("text() of a long one", Check.read(z, "pulls 140" + times("-1", 138) + ";"), 2);
+        z.by(2);
+        b.due("pulls() by all of it", z.pulls(), 2);
         b.of(6, "TEXTS 0 .. 3");
         HeadServo y = new HeadServo();
         for (int i = 0; i < 3; i++) Check.read(y, "");
@@ -300,13 +336,6 @@ public final class BoundaryTextTest {
         reads("pulls zz;", 1, 6);
         sound("\n\nday\n1\n;\n");
         sound("");
-        // The tape ends between < and =: what is behind is none of it.
-        HeadServo x = new HeadServo();
-        Check.feed(x, "pulls if 1<=2");
-        x.end(11);
-        x.text();
-        b.due("fault(0) of what is cut behind <", x.fault(0), 1);
-        b.due("fault(1) of what is cut behind <", x.fault(1), 11);
     }
 
     private static void clauses() {

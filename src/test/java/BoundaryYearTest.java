@@ -273,6 +273,23 @@ public final class BoundaryYearTest {
             y2.back();
             tapeAndFault(y2);
         });
+        HeadServo v = new HeadServo();
+        Check.read(v, "pulls error;");
+        v.said(4, 4);
+        v.request(5);
+        v.image();
+        int[][] others = {{5, 4}, {4, 5}};
+        for (int[] w : others) {
+            v.said(-1000, 0);
+            v.said(w[0], w[1]);
+            v.request(-1);
+            v.request(6);
+            b.due("whose() by others", v.whose(), 0);
+            b.due("order(0) of others", v.order(0), 6);
+            v.back();
+            b.due("whose() as SAID", v.whose(), 1);
+            b.due("order(0) as asked for", v.order(0), 5);
+        }
         HeadServo z = new HeadServo();
         z.feed(1, 1, 1, 1, 1);
         z.image();
