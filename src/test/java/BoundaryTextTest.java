@@ -198,7 +198,8 @@ public final class BoundaryTextTest {
         b.due("text() behind one with more CLAUSES", Check.read(z, "lose 3;"), 1);
         b.due("played(1)", z.played(1), -1);
         b.due("lost() by its own CLAUSE", z.lost(), 12);
-        b.due("text() of a long one", Check.read(z, "pulls 140" + times("-1", 138) + ";"), 2);
+        for (int i = 0; i < 9; i++) Check.read(z, "learns 1" + times("+1", 140) + ";pulls");
+        b.due("text() of a long one behind many with a FAULT", Check.read(z, "pulls 140" + times("-1", 138) + ";"), 2);
         z.by(2);
         b.due("pulls() by all of it", z.pulls(), 2);
         b.of(6, "TEXTS 0 .. 3");
