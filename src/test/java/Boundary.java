@@ -32,15 +32,17 @@ final class Boundary {
     private int failed;
 
     Boundary() {
-        document = bare(readDocument());
+        document = readDocument();
         for (int way = 0; way < Trace.WAYS; way++) busy[way] = traced(Heads::busy, x -> 0, 0, way);
     }
 
+    /** Null where there is no document beside the project: the calls are tested there even so. */
     private static String readDocument() {
         try {
-            return Files.readString(DOCUMENT, StandardCharsets.UTF_8);
+            return bare(Files.readString(DOCUMENT, StandardCharsets.UTF_8));
         } catch (IOException e) {
-            throw new IllegalStateException(DOCUMENT + " can't be read from the project's root", e);
+            System.out.println(DOCUMENT + " can't be read: sentences aren't compared with it");
+            return null;
         }
     }
 
@@ -59,7 +61,7 @@ final class Boundary {
         right = true;
         told = "promise " + promise + ": " + sentence;
         if (promise < 1 || promise > PROMISES) miss("there is no such promise");
-        if (!document.contains(bare(sentence))) miss("the document has no such sentence");
+        if (document != null && !document.contains(bare(sentence))) miss("the document has no such sentence");
         if (System.getProperty("sentences") != null) System.out.println("sentence|" + promise + "|" + sentence);
     }
 
