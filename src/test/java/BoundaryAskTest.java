@@ -318,6 +318,8 @@ public final class BoundaryAskTest {
         b.due("fit of 16", x.fit(1, -1, 16, -1, -1), 16);
         b.due("fit of the third", x.fit(1, -1, -1, 16, -1), 24);
         b.due("fit of the fourth", x.fit(1, -1, -1, -1, 16), -1);
+        b.outside("fit(.., NONE)", (y, v) -> y.fit(v, -1, -1, -1, -1), 0, 63, -1);
+        b.outside("fit(.., 16)", (y, v) -> y.fit(v, 16, -1, -1, -1), 0, 63, -1);
         b.outside("fit(.., 4, 12, 12, 4)", (y, v) -> y.fit(v, 4, 12, 12, 4), 0, 63, -1);
         b.outside("fit(1, .., NONE)", (y, v) -> y.fit(1, v, -1, -1, -1), -1, 16, -1);
         b.outside("fit(1, NONE, .., NONE)", (y, v) -> y.fit(1, -1, v, -1, -1), -1, 16, -1);
@@ -608,6 +610,9 @@ public final class BoundaryAskTest {
         b.row("order(i) of none", new HeadServo(), (y, v) -> y.order(v), -2, -2, 0, -2, -2);
         b.row("order(i) of one", Heads.asked(5, 8), (y, v) -> y.order(v), -2, -2, 3, 8, -2);
         b.row("order(i) of two", Heads.asked(5, 8, 4), (y, v) -> y.order(v), -2, -2, 5, 4, 8, -2);
+        b.row("order(i) of six upwards", Heads.asked(0, 1, 2, 3, 61, 62, 63), (y, v) -> y.order(v), -2, -2, 63, 1, 2, 3, 61, 62, 63, -2);
+        b.row("order(i) of six downwards", Heads.asked(0, 63, 62, 61, 3, 2, 1), (y, v) -> y.order(v), -2, -2, 63, 1, 2, 3, 61, 62, 63, -2);
+        b.row("order(i) of six, the last being asked for twice", Heads.asked(0, 1, 2, 3, 61, 63, 63), (y, v) -> y.order(v), -2, -2, 63, 1, 2, 3, 61, 63, 63, -2);
         b.row("order(i) of six", Heads.asked(0, 63, 1, 62, 2, 61, 3), (y, v) -> y.order(v), -2, -2, 63, 1, 2, 3, 61, 62, 63, -2);
         // Three are asked for there.
         b.outside("order", (y, v) -> y.order(v), -1, 2, -2);
@@ -674,6 +679,8 @@ public final class BoundaryAskTest {
     private static void nearest() {
         b.of(42, "THE NEAREST FIRST, of like ones the lower TRACK: how far.");
         b.due("nearest(), the lower of like ones", Heads.asked(10, 11, 9, 13).nearest(), 1 + 2 + 2);
+        b.due("nearest(), the lower of like ones being asked for first", Heads.asked(10, 9, 11, 13).nearest(), 1 + 2 + 2);
+        b.due("nearest(), the lower of like ones being asked for last", Heads.asked(10, 13, 11, 9).nearest(), 1 + 2 + 2);
         b.due("nearest(), the lower of like ones, then on", Heads.asked(10, 11, 9, 8, 13).nearest(), 1 + 1 + 3 + 2);
         b.due("nearest(), one nearer above", Heads.asked(10, 11, 8, 7).nearest(), 1 + 3 + 1);
         b.due("nearest(), one nearer below", Heads.asked(10, 12, 9, 13).nearest(), 1 + 3 + 1);

@@ -318,6 +318,16 @@ public final class BoundaryTextTest {
         sound("pulls if 1<=2 then 3 else 4 end;");
         reads("pulls if 1< =2 then 3 else 4 end;", 1, 12);
         reads("pulls if 1>\n=2 then 3 else 4 end;", 1, 12);
+        for (String sign : new String[] {"<=", ">="}) {
+            // At the end of the tape, and at the end of one that is full, or has one byte less.
+            reads("pulls if 1" + sign, 1, 12);
+            reads("pulls if 1" + times(" ", 287) + sign, 1, 299);
+            reads("pulls if 1" + times(" ", 288) + sign, 1, 300);
+        }
+        for (String sign : new String[] {"<", ">", "=", "#"}) {
+            reads("pulls if 1" + sign, 1, 11);
+            reads("pulls if 1" + times(" ", 289) + sign, 1, 300);
+        }
         reads("pulls if 1=<2 then 3 else 4 end;", 1, 11);
         reads("pulls if 1<==2 then 3 else 4 end;", 1, 12);
         reads("pulls if 1<>2 then 3 else 4 end;", 1, 11);
